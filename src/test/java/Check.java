@@ -1,11 +1,17 @@
 /** Compares answers with those that are due, and ends a test with exit code 1 if one differed. */
 final class Check {
+    private String sentence = "";
     private int wrong;
+
+    /** The document's sentence, nearly in its words, that the next answers hold to: told with a wrong one. */
+    void sentence(String words) {
+        sentence = "[" + words + "] ";
+    }
 
     void due(String call, long got, long want) {
         if (got != want) {
             wrong++;
-            System.out.println(call + " answered " + got + ", due is " + want);
+            System.out.println(sentence + call + " answered " + got + ", due is " + want);
         }
     }
 

@@ -159,23 +159,6 @@ public final class OfficeTest {
         check.due("today", office.count(1), 1002);
         check.due("no item is asked", office.count(3), 3);
         check.traceDue("day()", office, 30, 10, 0, 41, 31, 11);
-        pastTheLastDay();
-    }
-
-    /** More calls than an object is promised for, but the only way to the last day. */
-    private static void pastTheLastDay() {
-        PostRates office = new PostRates();
-        for (int i = 0; i < 999; i++) {
-            office.day(1000);
-        }
-        office.day(999);
-        check.due("near the last day", office.count(1), 999999);
-        check.due("day(2) beyond", office.day(2), PostRates.FULL);
-        check.due("day(1001) beyond", office.day(1001), PostRates.BAD);
-        check.due("nothing passed", office.count(1), 999999);
-        check.due("day(1) to the last", office.day(1), 0);
-        check.due("day(0) on the last", office.day(0), 0);
-        check.due("the last day", office.count(1), 1000000);
     }
 
     private static void telling() {

@@ -27,7 +27,7 @@ public final class RandomRunsTest {
     private static void oneCall(String at, Random random, PostRates office, Model model) {
         int item = near(random, model.count + 1);
         int n = random.nextInt(3) == 0 ? random.nextInt() : near(random, 12);
-        switch (random.nextInt(14)) {
+        switch (random.nextInt(18)) {
             case 0 -> {
                 int k = near(random, 9);
                 int v = near(random, 1003);
@@ -59,17 +59,13 @@ public final class RandomRunsTest {
                 int what = near(random, 7);
                 check.due(at + "told(" + item + ", " + what + ")", office.told(item, what), model.told(item, what));
             }
-            case 11 -> {
-                check.due(at + "scan(" + item + ", " + n + ")", office.scan(item, n), model.scan(item, n));
-                check.due(at + "scanned()", office.scanned(), model.scanned);
-            }
-            case 12 -> check.due(at + "first()", office.first(), model.first());
+            case 11 -> check.due(at + "scan(" + item + ", " + n + ")", office.scan(item, n), model.scan(item, n));
+            case 12 -> check.due(at + "scanned()", office.scanned(), model.scanned);
+            case 13 -> check.due(at + "first()", office.first(), model.first());
+            case 14 -> check.due(at + "till()", office.till(), model.till);
             default -> {
-                check.due(at + "till()", office.till(), model.till);
-                check.due(at + "count(0)", office.count(0), model.count);
-                check.due(at + "count(1)", office.count(1), model.today);
-                check.due(at + "count(2)", office.count(2), model.traceLength);
-                check.due(at + "count(3)", office.count(3), model.acts);
+                int what = near(random, 5);
+                check.due(at + "count(" + what + ")", office.count(what), model.counted(what));
             }
         }
     }
@@ -235,6 +231,16 @@ public final class RandomRunsTest {
                 }
             }
             return least;
+        }
+
+        int counted(int what) {
+            return switch (what) {
+                case 0 -> count;
+                case 1 -> today;
+                case 2 -> traceLength;
+                case 3 -> acts;
+                default -> -1;
+            };
         }
 
         private int rank(int item) {
